@@ -673,6 +673,10 @@ public final class PromisesTest {
         due("machines took none", x.all(0, 6), 0);
         due("a core is mended", x.all(0, 4), 1);
         due("good ones", x.all(0, 2), 8);
+        x.stock(0, 1, 3);
+        due("machines that stood took two", x.all(1, 6), 5);
+        x.fails(0, 0, 0);
+        due("a machine took one at once", x.all(0, 6), 1);
     }
 
     private static void field() {
