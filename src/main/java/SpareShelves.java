@@ -391,12 +391,15 @@ public final class SpareShelves {
     /** A broken part at a shelf; one that comes where its kind is no longer mended goes on in the same way. */
     private void goesBack(int s, int k, int how) {
         int end = tree.firstThatMends(s, k);
+        int core = kinds.core[k];
         if (end != s) {
             setsOut(s, k, end, how);
-        } else if (how == BY_CORE) {
-            mendAsksForCore(s, k);
-        } else {
+        } else if (how != BY_CORE || core == NONE) {
             mendBegins(s, k);
+        } else if (takesGood(s, core)) {
+            mendGetsCore(s, core, k);
+        } else {
+            asks.add(s, core, MENDING, time, k);
         }
     }
 
@@ -406,15 +409,6 @@ public final class SpareShelves {
 
     private void mendBegins(int s, int k) {
         dues.add(s, k, MENDED, time + tree.mendDays[s][k], NONE);
-    }
-
-    private void mendAsksForCore(int s, int k) {
-        int core = kinds.core[k];
-        if (takesGood(s, core)) {
-            mendGetsCore(s, core, k);
-        } else {
-            asks.add(s, core, MENDING, time, k);
-        }
     }
 
     private void mendGetsCore(int s, int core, int k) {
