@@ -1,10 +1,11 @@
 import java.util.ArrayList;
+import java.util.Arrays;
 import java.util.List;
 import java.util.Random;
 
 /** Long mixed runs of calls; every answer is compared with that of a second program that keeps each part as an object. */
 public final class ModelTest {
-    private static final int RUNS = 400, CALLS = 512;
+    private static final int RUNS = 200, MOST_CALLS = 512, MOST_WRONG = 20;
     private static final int NONE = -1, BAD = -2, STATE = -3, FULL = -4;
 
     private static int wrong = 0;
@@ -429,10 +430,151 @@ public final class ModelTest {
         }
     }
 
-    private static void due(int run, String call, int got, int want) {
-        if (got != want) {
-            wrong++;
-            System.out.println("run " + run + ": " + call + " answered " + got + ", due is " + want);
+    /** A call by its name and its numbers, with the answer that the model gave to it. */
+    private record Call(String name, int[] with, int answer) {
+        @Override
+        public String toString() {
+            return name + Arrays.toString(with).replace('[', '(').replace(']', ')');
+        }
+    }
+
+    private static int answerOf(SpareShelves x, String name, int... n) {
+        return switch (name) {
+            case "kind" -> x.kind(n[0], n[1], n[2]);
+            case "shelf" -> x.shelf(n[0], n[1]);
+            case "mend" -> x.mend(n[0], n[1], n[2]);
+            case "stock" -> x.stock(n[0], n[1], n[2]);
+            case "rate" -> x.rate(n[0], n[1], n[2]);
+            case "fails" -> x.fails(n[0], n[1], n[2]);
+            case "days" -> x.days(n[0]);
+            case "choose" -> x.choose();
+            case "about" -> x.about(n[0], n[1], n[2]);
+            case "ask" -> x.ask(n[0], n[1], n[2], n[3]);
+            case "all" -> x.all(n[0], n[1]);
+            case "field" -> x.field(n[0], n[1]);
+            case "mender" -> x.mender(n[0], n[1]);
+            case "pipe" -> x.pipe(n[0], n[1], n[2]);
+            case "worth" -> x.worth();
+            default -> x.count(n[0]);
+        };
+    }
+
+    private static Call asked(Model m, String name, int... n) {
+        int answer = switch (name) {
+            case "kind" -> m.kind(n[0], n[1], n[2]);
+            case "shelf" -> m.shelf(n[0], n[1]);
+            case "mend" -> m.mend(n[0], n[1], n[2]);
+            case "stock" -> m.stock(n[0], n[1], n[2]);
+            case "rate" -> m.rate(n[0], n[1], n[2]);
+            case "fails" -> m.fails(n[0], n[1], n[2]);
+            case "days" -> m.days(n[0]);
+            case "choose" -> m.choose();
+            case "about" -> m.about(n[0], n[1], n[2]);
+            case "ask" -> m.ask(n[0], n[1], n[2], n[3]);
+            case "all" -> m.all(n[0], n[1]);
+            case "field" -> m.field(n[0], n[1]);
+            case "mender" -> m.mender(n[0], n[1]);
+            case "pipe" -> m.pipe(n[0], n[1], n[2]);
+            case "worth" -> m.worth();
+            default -> m.count(n[0]);
+        };
+        return new Call(name, n, answer);
+    }
+
+    /** What is played on a new object for each look, so that none is called more often than the document tells. */
+    private static final class Run {
+        final int number;
+        final Model model = new Model();
+        final List<Call> calls = new ArrayList<>();
+
+        Run(int number) {
+            this.number = number;
+        }
+
+        void call(String name, int... with) {
+            calls.add(asked(model, name, with));
+        }
+
+        void compare(SpareShelves x, Call c) {
+            int got = answerOf(x, c.name, c.with);
+            if (got != c.answer) {
+                wrong++;
+                System.out.println("run " + number + ": " + c + " behind " + calls.size() + " calls answered " + got
+                    + ", due is " + c.answer);
+            }
+        }
+
+        SpareShelves played() {
+            SpareShelves x = new SpareShelves();
+            for (Call c : calls) {
+                compare(x, c);
+            }
+            return x;
+        }
+
+        /** All that the model shows now is put to the class, as much to each new object as it may be called. */
+        void look() {
+            List<Call> looks = looks(model);
+            int slice = MOST_CALLS - calls.size();
+            for (int from = 0; from < looks.size() && wrong < MOST_WRONG; from += slice) {
+                SpareShelves x = played();
+                for (Call c : looks.subList(from, Math.min(looks.size(), from + slice))) {
+                    compare(x, c);
+                }
+            }
+        }
+    }
+
+    private static List<Call> looks(Model m) {
+        List<Call> looks = new ArrayList<>();
+        for (int what = -1; what < 8; what++) {
+            looks.add(asked(m, "count", what));
+        }
+        looks.add(asked(m, "worth"));
+        for (int k = -1; k <= m.kinds.size(); k++) {
+            for (int what = -1; what < 10; what++) {
+                looks.add(asked(m, "all", k, what));
+            }
+        }
+        for (int s = -1; s <= m.shelves.size(); s++) {
+            for (int what = -1; what < 6; what++) {
+                looks.add(asked(m, "field", s, what));
+            }
+            for (int k = -1; k <= m.kinds.size(); k++) {
+                looksAt(m, s, k, looks);
+            }
+        }
+        return looks;
+    }
+
+    private static void looksAt(Model m, int s, int k, List<Call> looks) {
+        looks.add(asked(m, "mender", s, k));
+        for (int what = -1; what < 9; what++) {
+            looks.add(asked(m, "about", s, k, what));
+        }
+        for (int what = -1; what < 5; what++) {
+            looks.add(asked(m, "pipe", s, k, what));
+        }
+        int asks = m.about(s, k, 1);
+        for (int i = -1; i <= asks; i++) {
+            for (int what = -1; what < 4; what++) {
+                looks.add(asked(m, "ask", s, k, i, what));
+            }
+        }
+    }
+
+    /** What came to be of a kind and what became of it are as many: bought and broken ones are all somewhere. */
+    private static void weigh(Run run) {
+        SpareShelves x = run.played();
+        for (int k = 0; k < run.model.kinds.size(); k++) {
+            int sum = 0;
+            for (int what = 1; what < 8; what++) {
+                sum += x.all(k, what);
+            }
+            if (sum != x.all(k, 0) + x.all(k, 8)) {
+                wrong++;
+                System.out.println("run " + run.number + ": of kind " + k + " " + sum + " are somewhere");
+            }
         }
     }
 
@@ -441,135 +583,104 @@ public final class ModelTest {
         return r.nextInt(40) == 0 ? (r.nextBoolean() ? least - 1 : greatest + 1) : least + r.nextInt(greatest - least + 1);
     }
 
-    private static void change(int run, Random r, SpareShelves x, Model m) {
+    private static void change(Run run, Random r) {
+        Model m = run.model;
         int s = near(r, 0, m.shelves.size() - 1);
         int k = near(r, 0, Math.max(0, m.kinds.size() - 1));
         int pick = r.nextInt(100);
-        int n;
         if (pick < 4) {
-            n = near(r, 1, 1000);
-            int days = near(r, 1, 50);
-            int core = near(r, -1, m.kinds.size() - 1 < 0 ? -1 : m.kinds.size() - 1);
-            due(run, "kind(" + n + ", " + days + ", " + core + ")", x.kind(n, days, core), m.kind(n, days, core));
+            run.call("kind", near(r, 1, 1000), near(r, 1, 50), near(r, -1, Math.max(-1, m.kinds.size() - 1)));
         } else if (pick < 7) {
-            n = near(r, 1, 20);
-            due(run, "shelf(" + s + ", " + n + ")", x.shelf(s, n), m.shelf(s, n));
+            run.call("shelf", s, near(r, 1, 20));
         } else if (pick < 16) {
-            n = r.nextInt(3) == 0 ? 0 : near(r, 0, 30);
-            due(run, "mend(" + s + ", " + k + ", " + n + ")", x.mend(s, k, n), m.mend(s, k, n));
-        } else if (pick < 16 + run % 20) {
-            n = near(r, 1, 9);
-            due(run, "stock(" + s + ", " + k + ", " + n + ")", x.stock(s, k, n), m.stock(s, k, n));
+            run.call("mend", s, k, r.nextInt(3) == 0 ? 0 : near(r, 0, 30));
+        } else if (pick < 16 + run.number % 20) {
+            run.call("stock", s, k, near(r, 1, 9));
         } else if (pick < 40) {
-            n = near(r, 0, r.nextInt(4) == 0 ? 10000 : 300);
-            due(run, "rate(" + s + ", " + k + ", " + n + ")", x.rate(s, k, n), m.rate(s, k, n));
+            run.call("rate", s, k, near(r, 0, r.nextInt(4) == 0 ? 10000 : 300));
         } else if (pick < 75) {
-            n = near(r, 0, 2);
-            due(run, "fails(" + s + ", " + k + ", " + n + ")", x.fails(s, k, n), m.fails(s, k, n));
+            run.call("fails", s, k, near(r, 0, 2));
         } else if (pick < 92) {
-            n = near(r, 1, r.nextInt(9) == 0 ? 60 : 4);
-            due(run, "days(" + n + ")", x.days(n), m.days(n));
+            run.call("days", near(r, 1, r.nextInt(9) == 0 ? 60 : 4));
         } else {
-            due(run, "choose()", x.choose(), m.choose());
+            run.call("choose");
         }
     }
 
-    private static void look(int run, SpareShelves x, Model m) {
-        for (int what = -1; what < 8; what++) {
-            due(run, "count(" + what + ")", x.count(what), m.count(what));
-        }
-        due(run, "worth()", x.worth(), m.worth());
-        for (int k = -1; k <= m.kinds.size(); k++) {
-            for (int what = -1; what < 10; what++) {
-                due(run, "all(" + k + ", " + what + ")", x.all(k, what), m.all(k, what));
+    /** Any mixture of calls, those that are refused too. */
+    private static void mixedRun(int number) {
+        Random r = new Random(number);
+        Run run = new Run(number);
+        for (int part = 0; part < 3 && wrong < MOST_WRONG; part++) {
+            for (int call = 0; call < 40 + number % 80; call++) {
+                change(run, r);
             }
-        }
-        for (int s = -1; s <= m.shelves.size(); s++) {
-            for (int what = -1; what < 6; what++) {
-                due(run, "field(" + s + ", " + what + ")", x.field(s, what), m.field(s, what));
-            }
-            for (int k = -1; k <= m.kinds.size(); k++) {
-                lookAt(run, s, k, x, m);
-            }
+            run.look();
+            weigh(run);
         }
     }
 
-    private static void lookAt(int run, int s, int k, SpareShelves x, Model m) {
-        String place = "(" + s + ", " + k + ", ";
-        due(run, "mender" + place, x.mender(s, k), m.mender(s, k));
-        for (int what = -1; what < 9; what++) {
-            due(run, "about" + place + what + ")", x.about(s, k, what), m.about(s, k, what));
+    /** Short ways and mends, so that much is due on one day and the order in which it is done shows. */
+    private static void denseRun(int number) {
+        Random r = new Random(number);
+        Run run = new Run(number);
+        int kinds = 2 + r.nextInt(3);
+        for (int k = 0; k < kinds; k++) {
+            run.call("kind", 1, 1 + r.nextInt(2), k - 1);
         }
-        for (int what = -1; what < 5; what++) {
-            due(run, "pipe" + place + what + ")", x.pipe(s, k, what), m.pipe(s, k, what));
+        for (int s = 1; s < 8; s++) {
+            run.call("shelf", r.nextInt(s), 1 + r.nextInt(2));
         }
-        int asks = m.about(s, k, 1);
-        for (int i = -1; i <= asks; i++) {
-            for (int what = -1; what < 4; what++) {
-                due(run, "ask" + place + i + ", " + what + ")", x.ask(s, k, i, what), m.ask(s, k, i, what));
+        for (int i = 0; i < 12; i++) {
+            run.call("mend", r.nextInt(8), r.nextInt(kinds), 1 + r.nextInt(2));
+        }
+        for (int day = 0; day < 30; day++) {
+            for (int i = r.nextInt(5); i > 0; i--) {
+                run.call("fails", r.nextInt(8), r.nextInt(kinds), r.nextInt(7) % 3);
             }
-        }
-    }
-
-    /** What came to be of a kind and what became of it are as many: bought and broken ones are all somewhere. */
-    private static void weigh(int run, SpareShelves x) {
-        for (int k = 0; k < x.count(0); k++) {
-            int sum = 0;
-            for (int what = 1; what < 8; what++) {
-                sum += x.all(k, what);
+            if (r.nextInt(3) == 0) {
+                run.call("stock", r.nextInt(8), r.nextInt(kinds), 1);
             }
-            due(run, "all that is somewhere of kind " + k, sum, x.all(k, 0) + x.all(k, 8));
+            run.call("days", 1);
         }
+        run.look();
     }
 
     /** One day on which a whole row of mends gets its cores: far more than a hundred asks and dues at once. */
     private static void flood() {
-        SpareShelves x = new SpareShelves();
-        Model m = new Model();
-        due(0, "kind", x.kind(1, 50, -1), m.kind(1, 50, -1));
-        due(0, "kind", x.kind(1, 50, 0), m.kind(1, 50, 0));
+        Run run = new Run(0);
+        run.call("kind", 1, 50, -1);
+        run.call("kind", 1, 50, 0);
         for (int s = 1; s < 8; s++) {
-            due(0, "shelf", x.shelf(s - 1, 20), m.shelf(s - 1, 20));
+            run.call("shelf", s - 1, 20);
         }
-        due(0, "mend", x.mend(7, 1, 30), m.mend(7, 1, 30));
+        run.call("mend", 7, 1, 30);
         for (int i = 0; i < 60; i++) {
-            due(0, "fails", x.fails(7, 1, 1), m.fails(7, 1, 1));
+            run.call("fails", 7, 1, 1);
         }
         for (int i = 0; i < 6; i++) {
-            due(0, "stock", x.stock(7, 0, 9), m.stock(7, 0, 9));
+            run.call("stock", 7, 0, 9);
         }
         for (int i = 0; i < 20; i++) {
-            due(0, "stock", x.stock(7, 1, 2), m.stock(7, 1, 2));
-            due(0, "fails", x.fails(7, 1, 1), m.fails(7, 1, 1));
+            run.call("stock", 7, 1, 2);
+            run.call("fails", 7, 1, 1);
         }
-        look(0, x, m);
-        due(0, "asks", x.count(3) > 300 ? 1 : 0, 1);
-        for (int i = 0; i < 20; i++) {
-            for (int s = 0; s < 7; s++) {
-                due(0, "stock", x.stock(s, 0, 1), m.stock(s, 0, 1));
-            }
+        run.look();
+        for (int i = 0; i < 140; i++) {
+            run.call("stock", i % 7, 0, 1);
         }
-        due(0, "dues", x.count(4) > 150 ? 1 : 0, 1);
-        look(0, x, m);
+        run.look();
         for (int i = 0; i < 10; i++) {
-            due(0, "days", x.days(40), m.days(40));
+            run.call("days", 40);
         }
-        look(0, x, m);
+        run.look();
     }
 
     public static void main(String[] args) {
         flood();
-        for (int run = 1; run <= RUNS && wrong < 20; run++) {
-            Random r = new Random(run);
-            SpareShelves x = new SpareShelves();
-            Model m = new Model();
-            for (int call = 1; call <= CALLS && wrong < 20; call++) {
-                change(run, r, x, m);
-                if (call % 16 == 0) {
-                    look(run, x, m);
-                    weigh(run, x);
-                }
-            }
+        for (int number = 1; number <= RUNS && wrong < MOST_WRONG; number++) {
+            mixedRun(number);
+            denseRun(RUNS + number);
         }
         System.out.println(wrong == 0 ? "both programs answer alike" : wrong + " answers are not as due");
         if (wrong != 0) {
